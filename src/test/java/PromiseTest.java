@@ -514,6 +514,11 @@ public final class PromiseTest {
         due("next(), the one without wear left out", x.next(), 1);
 
         x = new BellowsRound();
+        x.smithy(99, 1);
+        x.end(1);
+        due("next() with a wear of 1", x.next(), 0);
+
+        x = new BellowsRound();
         x.smithy(30, 4);
         x.smithy(20, 5);
         x.smithy(10, 5);
@@ -579,6 +584,14 @@ public final class PromiseTest {
         }
         due("round(255, 0)", x.round(255, 0), 4 + 1 + 4 + 1);
         due("round(256, 0)", x.round(256, 0), INVALID);
+
+        x = new BellowsRound();
+        x.smithy(99, 1);
+        x.smithy(98, 1);
+        x.end(1);
+        due("round(1, 0) to the mile 99", x.round(1, 0), 10 + 1);
+        due("round(3, 0) to the miles 98 and 99", x.round(3, 0), 10 + 1 + 1 + 1);
+        due("round(3, 1)", x.round(3, 1), 2);
     }
 
     private static void mean() {
@@ -717,16 +730,17 @@ public final class PromiseTest {
             due("value " + i + " behind the last undo()", back[i], before[i]);
         }
         due("the wears differ", before[20] == behindPatch[20] ? 1 : 0, 0);
-        x = new BellowsRound();
-        x.smithy(3, 9);
-        x.end(20);
-        x.undo();
-        x.undo();
+        x = withText("d20;b36;h0;c0;d20;");
+        x.smithy(0, 9);
+        due("fault(0), no fault", x.fault(0), NOT_FOUND);
+        due("undo()", x.undo(), 0);
         due("smithyOf(0, 0) of a smithy undone", x.smithyOf(0, 0), INVALID);
+        // Wherever the orders were tried, nothing of the smithy undone may show.
         x.smithy(4, 8);
-        due("smithyOf(0, 2) of another at its place", x.smithyOf(0, 2), 0);
-        due("smithyOf(0, 4)", x.smithyOf(0, 4), 100);
-        due("smithyOf(0, 6)", x.smithyOf(0, 6), 0);
+        int[] anew = {4, 8, 0, 0, 100, 0, 0, 0, 0, 0, 1};
+        for (int what = 0; what < anew.length; what++) {
+            due("smithyOf(0, " + what + ") of another at its place", x.smithyOf(0, what), anew[what]);
+        }
     }
 
     /** All numbers of the state but the length of the history and that of the text. */
@@ -809,6 +823,11 @@ public final class PromiseTest {
         dueFault("b1;b2;;", 6, 1, 0);
         dueFault("b1;b2; ", 6, 1, 0);
         dueFault("b10;w01;w01", 8, 1, 3);
+        x = withText("b1");
+        due("fault(2) of b1", x.fault(2), 2);
+        x.clearText();
+        type(x, "x");
+        due("fault(2) of x behind another fault", x.fault(2), 0);
     }
 
     private static void faultOfCall() {
