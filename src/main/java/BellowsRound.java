@@ -475,7 +475,7 @@ public final class BellowsRound {
             }
             int number = smithyCount;
             smithyCount++;
-            // The row may hold a smithy that undo has taken away.
+            // The row may still hold a smithy that undo has taken away.
             Smithy added = find(number);
             if (added != null) {
                 added.beginAt(newMile, newSize);
