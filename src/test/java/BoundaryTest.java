@@ -449,6 +449,7 @@ public final class BoundaryTest extends SentenceChecks {
         due("smithyOf 0 5 with a heat of 2", behind("smithy 0 9", "end 14", "set 0 1").smithyOf(0, 5), 0);
         due("smithyOf 0 5 with a heat of 100", behind("smithy 0 9", "set 0 99").smithyOf(0, 5), 0);
         says("Promise 10: 6: how long it has been cold");
+        due("smithyOf 0 6 of one that has just come", road(0, 9).smithyOf(0, 6), 0);
         due("smithyOf 0 6", behind("smithy 0 9", "end 11").smithyOf(0, 6), 0);
         due("smithyOf 0 6", behind("smithy 0 9", "end 12").smithyOf(0, 6), 1);
         due("smithyOf 0 6", behind("smithy 0 9", "end 99").smithyOf(0, 6), 88);

@@ -1,9 +1,10 @@
 /**
- * Each sentence of the document's section "Terms" that names a boundary case has a test of its own here.
+ * Each sentence of the document's sections "What it is" and "Terms" that names a boundary case has a test of its own here.
  * A wrong answer is told with the sentence that does not hold.
  */
 public final class TermsTest extends SentenceChecks {
     public static void main(String[] args) {
+        callsOfAnObject();
         numbers();
         smithies();
         hearths();
@@ -18,6 +19,21 @@ public final class TermsTest extends SentenceChecks {
         history();
         errors();
         endWithCode();
+    }
+
+    // ---- "What it is"
+
+    private static void callsOfAnObject() {
+        says("An object is used for at most 512 calls after it has been made");
+        BellowsRound x = road(0, 9);
+        for (int call = 2; call <= 507; call++) {
+            due("set(2, " + call % 21 + "), the call " + call, x.set(2, call % 21), call == 2 ? 4 : (call - 1) % 21);
+        }
+        due("end(3), the call 508", x.end(3), 0);
+        due("buy(2), the call 509", x.buy(2), 2);
+        due("patch(0), the call 510", x.patch(0), 5);
+        due("collect(0), the call 511", x.collect(0), 507 % 21 + 6);
+        due("undo(), the call 512", x.undo(), 3);
     }
 
     // ---- "Terms"
@@ -91,6 +107,7 @@ public final class TermsTest extends SentenceChecks {
         says("The bellows have a wear (0 to 100; 0 at first)");
         x = road(0, 9);
         due("smithyOf(0, 2)", x.smithyOf(0, 2), 0);
+        dueFirstOfSmithyAnew(2, 0);
         x.end(7);
         x.smithy(0, 9);
         due("smithyOf(1, 2) of one that came later", x.smithyOf(1, 2), 0);
@@ -109,10 +126,25 @@ public final class TermsTest extends SentenceChecks {
         }
     }
 
+    /** The first value of a smithy that comes where another one, with other numbers, has been undone. */
+    private static void dueFirstOfSmithyAnew(int what, int first) {
+        BellowsRound x = road(0, 9);
+        // Tried by fault(), done by play(), and undone, so that every row that is kept has held the other smithy.
+        type(x, "b99;d14;h0;c0;d13;");
+        due("fault(0)", x.fault(0), NOT_FOUND);
+        x.play();
+        x.fault(0);
+        x.undo();
+        x.undo();
+        x.smithy(0, 9);
+        due("smithyOf(0, " + what + ") of one that comes where another one is undone", x.smithyOf(0, what), first);
+    }
+
     private static void hearths() {
         says("A hearth has heat (0 to 100; 100 at first)");
         BellowsRound x = road(0, 9);
         due("smithyOf(0, 4)", x.smithyOf(0, 4), 100);
+        dueFirstOfSmithyAnew(4, 100);
         x.end(1);
         due("smithyOf(0, 4) behind a day without a leak", x.smithyOf(0, 4), 100);
         x.smithy(0, 9);
@@ -134,6 +166,9 @@ public final class TermsTest extends SentenceChecks {
         }
 
         says("How long it has been cold is the number of days at whose ends it was cold");
+        x = road(0, 9);
+        due("smithyOf(0, 6) of one that has just come", x.smithyOf(0, 6), 0);
+        dueFirstOfSmithyAnew(6, 0);
         x = market(11);
         due("smithyOf(0, 6)", x.smithyOf(0, 6), 0);
         for (int days = 1; days <= 4; days++) {
@@ -365,6 +400,10 @@ public final class TermsTest extends SentenceChecks {
         }
 
         says("it is owed to the mender at once, and becomes a debt");
+        due("smithyOf(0, 7) of one that has just come", road(0, 9).smithyOf(0, 7), 0);
+        dueFirstOfSmithyAnew(7, 0);
+        dueFirstOfSmithyAnew(8, 0);
+        dueFirstOfSmithyAnew(9, 0);
         BellowsRound x = market(3);
         int money = x.count(5);
         x.patch(0);
@@ -595,6 +634,10 @@ public final class TermsTest extends SentenceChecks {
         dueFault("b7;w12x;", 3, 1, 3);
         dueFault("b7;w123x;", 3, 1, 4);
         dueFault("b7;w1234;", 3, 1, 4);
+        x = new BellowsRound();
+        dueFault(x, "w123x;", 0, 1, 4);
+        dueFault(x, "x", 0, 1, 0);
+        dueFault(x, "w1x;", 0, 1, 2);
 
         says("(of one that the text ends too early it is its length)");
         dueFault("b7;w", 3, 1, 1);
@@ -602,6 +645,13 @@ public final class TermsTest extends SentenceChecks {
         dueFault("b7;w12", 3, 1, 3);
         dueFault("b7;w123", 3, 1, 4);
         dueFault("b1;b1;b1;b1;b1;b1;b1;b1;b1;b1;b1;b1;b1;b1;b1;b1;b1;b1;b1;b12", 57, 1, 3);
+
+        x = new BellowsRound();
+        dueFault(x, "b12;b3;", NOT_FOUND, NOT_FOUND, NOT_FOUND);
+        dueFault(x, "b12", 0, 1, 3);
+        dueFault(x, "b1", 0, 1, 2);
+        dueFault(x, "b", 0, 1, 1);
+        dueFault(x, "b12;", NOT_FOUND, NOT_FOUND, NOT_FOUND);
 
         says("and with the reason 2 the error code that the call returns for it");
         dueFault("w100;", 0, 2, INVALID);
