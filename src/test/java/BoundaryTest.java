@@ -9,23 +9,37 @@ public final class BoundaryTest extends SentenceChecks {
         walk();
         buy();
         patch();
+        patchRefused();
         hide();
+        hideRefused();
         collect();
         end();
         set();
         smithyOf();
-        smithyOfNumbers();
+        smithyOfBellows();
+        smithyOfCold();
+        smithyOfAccount();
+        smithyOfWay();
         why();
+        whyOfMender();
+        whyOfSmithy();
         whyFirstReason();
         mend();
+        mendNumbers();
+        mendPossibleOrNot();
         coldIn();
         coldInOfEverySize();
         next();
+        nextOfSeveral();
         round();
+        roundOfWalks();
         roundOfMends();
         mean();
         count();
-        countNumbers();
+        countMender();
+        countAccounts();
+        countColdHearths();
+        countOthers();
         undo();
         type();
         clearText();
@@ -183,9 +197,11 @@ public final class BoundaryTest extends SentenceChecks {
         due(x, "patch 1", 0);
         due(x, "smithyOf 1 2", 0);
         due("patch 0 with a wear of 100", worn(x).patch(0), 33);
+    }
 
+    private static void patchRefused() {
         says("Promise 5: NOT_POSSIBLE if it cannot be mended so (the mender is not there)");
-        x = behind("buy 20", "smithy 5 9", "end 1", "walk 4");
+        BellowsRound x = behind("buy 20", "smithy 5 9", "end 1", "walk 4");
         dueRefused(x, "patch 0", NOT_POSSIBLE);
         x.walk(6);
         dueRefused(x, "patch 0", NOT_POSSIBLE);
@@ -239,9 +255,11 @@ public final class BoundaryTest extends SentenceChecks {
         x = behind("buy 36", "smithy 0 9", "set 2 20", "end 99");
         due("hide 0 of the greatest price", x.hide(0), 60 + 108);
         due(x, "smithyOf 0 2", 0);
+    }
 
+    private static void hideRefused() {
         says("Promise 6: NOT_POSSIBLE if it cannot be mended so (the mender is not there)");
-        x = behind("buy 40", "smithy 5 9", "end 1", "walk 4");
+        BellowsRound x = behind("buy 40", "smithy 5 9", "end 1", "walk 4");
         dueRefused(x, "hide 0", NOT_POSSIBLE);
         x.walk(6);
         dueRefused(x, "hide 0", NOT_POSSIBLE);
@@ -419,7 +437,7 @@ public final class BoundaryTest extends SentenceChecks {
         }
     }
 
-    private static void smithyOfNumbers() {
+    private static void smithyOfBellows() {
         BellowsRound x = road(0, 1, 99, 9);
         says("Promise 10: 0: its mile");
         due(x, "smithyOf 0 0", 0);
@@ -442,6 +460,9 @@ public final class BoundaryTest extends SentenceChecks {
         due("smithyOf 0 4", behind("smithy 0 9", "end 14").smithyOf(0, 4), 2);
         due("smithyOf 0 4", behind("smithy 0 9", "end 15").smithyOf(0, 4), 0);
         due("smithyOf 0 4", behind("smithy 0 9", "end 16").smithyOf(0, 4), 0);
+    }
+
+    private static void smithyOfCold() {
         says("Promise 10: 5: 1 if it is cold, otherwise 0");
         due("smithyOf 0 5 with a heat of 40", behind("smithy 0 9", "end 11", "set 0 40").smithyOf(0, 5), 0);
         due("smithyOf 0 5 with a heat of 40", behind("smithy 0 9", "end 11", "set 0 41").smithyOf(0, 5), 1);
@@ -454,11 +475,14 @@ public final class BoundaryTest extends SentenceChecks {
         due("smithyOf 0 6", behind("smithy 0 9", "end 12").smithyOf(0, 6), 1);
         due("smithyOf 0 6", behind("smithy 0 9", "end 99").smithyOf(0, 6), 88);
         due("smithyOf 0 6", behind("smithy 0 9", "buy 36", "end 12", "hide 0", "end 1").smithyOf(0, 6), 0);
-        x = road(0, 9);
+        BellowsRound x = road(0, 9);
         endDays(x, 9999);
         due("smithyOf 0 6 on the last day", x.smithyOf(0, 6), 9999 - 11);
+    }
+
+    private static void smithyOfAccount() {
         says("Promise 10: 7: its debt");
-        x = behind("smithy 0 9", "buy 90", "end 3");
+        BellowsRound x = behind("smithy 0 9", "buy 90", "end 3");
         due(x, "smithyOf 0 7", 0);
         x.patch(0);
         due(x, "smithyOf 0 7", 10);
@@ -477,12 +501,15 @@ public final class BoundaryTest extends SentenceChecks {
         x.hide(0);
         due("smithyOf 0 9 behind a mend that was refused", x.smithyOf(0, 9), 2);
         due("smithyOf 0 9 of a new one", road(0, 9).smithyOf(0, 9), 0);
+    }
+
+    private static void smithyOfWay() {
         says("Promise 10: 10: the hours of the way to it from where the mender is");
         int[] miles = {0, 1, 10, 11, 90, 91, 99};
         int[] hours = {0, 1, 1, 2, 9, 10, 10};
         for (int i = 0; i < miles.length; i++) {
             due("smithyOf 0 10 at " + miles[i] + " from 0", road(miles[i], 1).smithyOf(0, 10), hours[i]);
-            x = road(99 - miles[i], 1);
+            BellowsRound x = road(99 - miles[i], 1);
             x.walk(99);
             due("smithyOf 0 10 at " + (99 - miles[i]) + " from 99, without hours", x.smithyOf(0, 10), hours[i]);
         }
@@ -508,9 +535,11 @@ public final class BoundaryTest extends SentenceChecks {
         x = behind("smithy 0 9", "end 1", "buy 1");
         due(x, "why 0 0", 0);
         due(x, "why 0 1", 3);
+    }
 
+    private static void whyOfMender() {
         says("Promise 11: 1 the mender is not there");
-        x = behind("smithy 5 1", "buy 40", "end 1", "walk 4");
+        BellowsRound x = behind("smithy 5 1", "buy 40", "end 1", "walk 4");
         due(x, "why 0 0", 1);
         due(x, "why 0 1", 1);
         x.walk(6);
@@ -539,9 +568,11 @@ public final class BoundaryTest extends SentenceChecks {
         due("why 0 1 with 3 of leather for 4", x.why(0, 1), 3);
         x.buy(1);
         due("why 0 1 with 4 of leather for 4", x.why(0, 1), 0);
+    }
 
+    private static void whyOfSmithy() {
         says("Promise 11: 4 its debt is above the patience");
-        x = behind("smithy 0 1", "buy 40", "end 3", "patch 0", "set 3 7");
+        BellowsRound x = behind("smithy 0 1", "buy 40", "end 3", "patch 0", "set 3 7");
         due("why 0 0 with a debt of 7 and the patience 7", x.why(0, 0), 0);
         due("why 0 1 with a debt of 7 and the patience 7", x.why(0, 1), 0);
         x.set(3, 6);
@@ -618,8 +649,11 @@ public final class BoundaryTest extends SentenceChecks {
         for (int what : FAR_OUT) {
             due(x, "mend 0 0 " + what, INVALID);
         }
+    }
 
+    private static void mendNumbers() {
         says("Promise 12: 0: the hours");
+        BellowsRound x = road(0, 9);
         due(x, "mend 0 0 0", 1);
         due(x, "mend 0 1 0", 3);
 
@@ -655,9 +689,11 @@ public final class BoundaryTest extends SentenceChecks {
             due("mend 0 0 3 with a wear of " + wears[i], x.mend(0, 0, 3), thirds[i]);
             due("mend 0 1 3 with a wear of " + wears[i], x.mend(0, 1, 3), 0);
         }
+    }
 
+    private static void mendPossibleOrNot() {
         says("Promise 12: whether it is possible or not");
-        x = behind("smithy 50 9", "end 3", "walk 99");
+        BellowsRound x = behind("smithy 50 9", "end 3", "walk 99");
         dueOfMend("not there, without hours and leather", x);
         x = behind("smithy 0 9", "buy 2", "end 3", "patch 0", "set 3 0", "end 2");
         due(x, "why 0 0", 3);
@@ -775,9 +811,11 @@ public final class BoundaryTest extends SentenceChecks {
         says("Promise 14: those that never are behind all others (none ever is: each is cold by 200)");
         x = behind("smithy 0 1", "smithy 0 9", "set 0 1", "end 1");
         due("next, the slowest wear and the least cold behind the other", x.next(), 1);
+    }
 
+    private static void nextOfSeveral() {
         says("Promise 14: of several the one with the greatest wear");
-        x = behind("smithy 0 4", "smithy 99 9", "set 0 99", "end 4");
+        BellowsRound x = behind("smithy 0 4", "smithy 99 9", "set 0 99", "end 4");
         due(x, "coldIn 0", 0);
         due(x, "coldIn 1", 0);
         due("next, with wears of 12 and 20", x.next(), 1);
@@ -837,9 +875,11 @@ public final class BoundaryTest extends SentenceChecks {
         for (int what : FAR_OUT) {
             due(x, "round 1 " + what, INVALID);
         }
+    }
 
+    private static void roundOfWalks() {
         says("Promise 15: in the order of their miles (the least first), from where the mender is");
-        x = road(60, 1, 9, 1, 41, 1);
+        BellowsRound x = road(60, 1, 9, 1, 41, 1);
         due("round(7, 0) from 0: 9, 32 and 19 miles", x.round(7, 0), 1 + 4 + 2);
         x.walk(50);
         due("round(7, 0) from 50: 41, 32 and 19 miles", x.round(7, 0), 5 + 4 + 2);
@@ -943,7 +983,7 @@ public final class BoundaryTest extends SentenceChecks {
         }
     }
 
-    private static void countNumbers() {
+    private static void countMender() {
         says("Promise 17: 0: smithies");
         due(new BellowsRound(), "count 0", 0);
         due(fullRoad(), "count 0", 8);
@@ -964,8 +1004,11 @@ public final class BoundaryTest extends SentenceChecks {
         due(behind("buy 50"), "count 5", 0);
         due(behind("buy 51"), "count 5", -2);
         due(behind("smithy 0 9", "buy 1", "end 1", "patch 0", "collect 0"), "count 5", 105);
+    }
+
+    private static void countAccounts() {
         says("Promise 17: 6: all debts together");
-        x = behind("smithy 0 9", "smithy 0 9", "buy 40");
+        BellowsRound x = behind("smithy 0 9", "smithy 0 9", "buy 40");
         due(x, "count 6", 0);
         x.end(1);
         x.patch(0);
@@ -980,8 +1023,11 @@ public final class BoundaryTest extends SentenceChecks {
         says("Promise 17: 8: what was owed for mends so far");
         due(x, "count 8", 127);
         due(new BellowsRound(), "count 8", 0);
+    }
+
+    private static void countColdHearths() {
         says("Promise 17: 9: cold hearths, as a set");
-        x = fullRoad();
+        BellowsRound x = fullRoad();
         due(x, "count 9", 0);
         x.end(12);
         due(x, "count 9", 128);
@@ -1003,6 +1049,9 @@ public final class BoundaryTest extends SentenceChecks {
         x.end(1);
         due(x, "smithyOf 0 6", 1);
         due("count 10 stays the greatest", x.count(10), 12);
+    }
+
+    private static void countOthers() {
         says("Promise 17: 11: miles walked so far");
         due(behind("walk 0"), "count 11", 0);
         due(behind("walk 9", "walk 0", "walk 21", "walk 80", "walk 20"), "count 11", 9 + 9 + 21 + 1);
@@ -1017,7 +1066,7 @@ public final class BoundaryTest extends SentenceChecks {
         due(withText(FULL_TEXT), "count 13", 60);
         due(withText(FULL_TEXT + "b"), "count 13", 60);
         says("Promise 17: 20 to 23: the settings 0 to 3");
-        x = behind("set 0 99", "set 1 24", "set 2 20", "set 3 500");
+        BellowsRound x = behind("set 0 99", "set 1 24", "set 2 20", "set 3 500");
         due(x, "count 20", 99);
         due(x, "count 21", 24);
         due(x, "count 22", 20);

@@ -8,16 +8,24 @@ public final class TermsTest extends SentenceChecks {
         numbers();
         smithies();
         hearths();
+        coldDays();
         daysThatEnd();
+        heatOfDays();
         mender();
+        waysAndMarket();
         mends();
         debts();
+        collecting();
         settings();
         formOfTexts();
+        numbersInTexts();
         faultsOfTexts();
+        causesOfFaults();
         changes();
         history();
         errors();
+        errorsChangeNothing();
+        noSuchSmithy();
         endWithCode();
     }
 
@@ -164,9 +172,11 @@ public final class TermsTest extends SentenceChecks {
             due("count(9) with the cold " + cold, x.count(9), isCold);
             due("coldIn(0) with the cold " + cold, x.coldIn(0) == 0 ? 1 : 0, isCold);
         }
+    }
 
+    private static void coldDays() {
         says("How long it has been cold is the number of days at whose ends it was cold");
-        x = road(0, 9);
+        BellowsRound x = road(0, 9);
         due("smithyOf(0, 6) of one that has just come", x.smithyOf(0, 6), 0);
         dueFirstOfSmithyAnew(6, 0);
         x = market(11);
@@ -224,7 +234,9 @@ public final class TermsTest extends SentenceChecks {
             due("smithyOf(0, 2) of the size " + size, x.smithyOf(0, 2), 100);
             due("smithyOf(0, 3) of the size " + size, x.smithyOf(0, 3), 10);
         }
+    }
 
+    private static void heatOfDays() {
         says("then (by the wear as it has grown) the heat of each hearth becomes less by its leak times 2");
         BellowsRound x = road(0, 9, 0, 1);
         int[] heats = {100, 98, 96, 92, 88, 82, 76, 68, 60, 50, 40, 28, 16, 2};
@@ -315,12 +327,14 @@ public final class TermsTest extends SentenceChecks {
         x.set(1, 24);
         x.end(99);
         due("count(3)", x.count(3), 24);
+    }
 
+    private static void waysAndMarket() {
         says("To walk takes an hour for each 10 miles that are begun.");
         int[] miles = {0, 1, 9, 10, 11, 19, 20, 21, 89, 90, 91, 99};
         int[] hours = {0, 1, 1, 1, 2, 2, 2, 3, 9, 9, 10, 10};
         for (int i = 0; i < miles.length; i++) {
-            x = new BellowsRound();
+            BellowsRound x = new BellowsRound();
             due("walk(" + miles[i] + ")", x.walk(miles[i]), 10 - hours[i]);
             x = new BellowsRound();
             x.walk(99);
@@ -329,7 +343,7 @@ public final class TermsTest extends SentenceChecks {
         }
 
         says("Leather is bought at the market, at the mile 0");
-        x = new BellowsRound();
+        BellowsRound x = new BellowsRound();
         due("buy(1) at the mile 0", x.buy(1), 1);
         x.walk(1);
         due("buy(1) at the mile 1", x.buy(1), NOT_POSSIBLE);
@@ -429,10 +443,12 @@ public final class TermsTest extends SentenceChecks {
         due("patch(0) with a debt and the patience 0", x.patch(0), NOT_POSSIBLE);
         x.collect(0);
         due("patch(0) with the debt paid", x.patch(0), 0);
+    }
 
+    private static void collecting() {
         says("When the mender collects at a smithy, it pays its debt");
-        x = market(3);
-        money = x.count(5);
+        BellowsRound x = market(3);
+        int money = x.count(5);
         x.patch(0);
         due("collect(0), warm", x.collect(0), 10);
         due("smithyOf(0, 7)", x.smithyOf(0, 7), 0);
@@ -524,7 +540,9 @@ public final class TermsTest extends SentenceChecks {
             due("fault(2) of " + letter + "1;", x.fault(2), causeOfLetter(letter));
         }
         eachOrder();
+    }
 
+    private static void numbersInTexts() {
         says("numbers of 1 to 3 digits");
         dueFault("d;", 0, 1, 1);
         dueNoFault("d1;");
@@ -542,7 +560,7 @@ public final class TermsTest extends SentenceChecks {
                 dueFault("b123" + other + ";", 0, 1, 4);
             }
         }
-        x = withText("b109;b008;b29;b36;b47;b5;");
+        BellowsRound x = withText("b109;b008;b29;b36;b47;b5;");
         due("play() of b109;b008;b29;b36;b47;b5;", x.play(), 6);
         due("count(4)", x.count(4), 109 + 8 + 29 + 36 + 47 + 5);
 
@@ -626,7 +644,9 @@ public final class TermsTest extends SentenceChecks {
         x.clearText();
         type(x, "b1;p0;d1;");
         due("fault(0) of b1;p0;d1;", x.fault(0), 3);
+    }
 
+    private static void causesOfFaults() {
         says("its cause is with the reason 1 at which character of the order, from 0, it breaks off");
         dueFault("b7;X1;", 3, 1, 0);
         dueFault("b7;wx;", 3, 1, 1);
@@ -634,7 +654,7 @@ public final class TermsTest extends SentenceChecks {
         dueFault("b7;w12x;", 3, 1, 3);
         dueFault("b7;w123x;", 3, 1, 4);
         dueFault("b7;w1234;", 3, 1, 4);
-        x = new BellowsRound();
+        BellowsRound x = new BellowsRound();
         dueFault(x, "w123x;", 0, 1, 4);
         dueFault(x, "x", 0, 1, 0);
         dueFault(x, "w1x;", 0, 1, 2);
@@ -808,9 +828,9 @@ public final class TermsTest extends SentenceChecks {
         due("fault(3) without a fault", x.fault(3), INVALID);
         due("fault(-1) without a fault", x.fault(-1), INVALID);
         due("coldIn(0) on an empty road", x.coldIn(0), INVALID);
+    }
 
-        errorsChangeNothing();
-
+    private static void noSuchSmithy() {
         says("If there is no smithy with a certain number, this is INVALID_ARGUMENT.");
         String[] calls = {"patch N", "hide N", "collect N", "smithyOf N 0", "why N 0", "mend N 0 0", "coldIn N"};
         String[] numbers = {"-2147483648", "-1", "1", "2", "7", "8", "32", "2147483647"};
