@@ -912,6 +912,13 @@ public final class BoundaryTest extends SentenceChecks {
         due(x, "round 3 2", 40 + 24);
         x.set(2, 0);
         due(x, "round 3 2", 24);
+        // the last of all eight counts, too: sizes 1 to 8 with wears of 1, 2, 2, 3, 3, 4, 4 and 5, one each 10 miles
+        x = fullRoad();
+        x.end(1);
+        due("round(255, 0) to all eight", x.round(255, 0), 7 + 8);
+        due("round(255, 1) to all eight", x.round(255, 1), 8);
+        due("round(255, 2) to all eight", x.round(255, 2), 8 * 4 + 8 * 3);
+        due("round(127, 0) to all but the last", x.round(127, 0), 6 + 7);
 
         says("Promise 15: each is mended by patches, if it can be (by reason 5: there is no wear)");
         x = behind("smithy 15 9", "end 2", "smithy 25 9");
